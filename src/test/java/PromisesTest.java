@@ -334,6 +334,15 @@ public final class PromisesTest {
         x.errand(0, 3, 9);
         x.errand(1, 1, 0);
         dayIs(x, 7, 1, 3, 3);
+        x = new TiedThrees();
+        x.person(3, 1);
+        x.person(0, 1);
+        x.person(0, 1);
+        x.errand(1, 2, 9);
+        x.errand(2, 1, 9);
+        dayIs(x, 7, 2, 1, 2);
+        x.errand(0, 3, 2);
+        dayIs(x, 7, 2, 3, 2);
         // IDLE ones stay in even HOURS; in odd ones they are KIND
         x = new TiedThrees();
         x.person(0, 1);
@@ -419,6 +428,9 @@ public final class PromisesTest {
             x.person(0, 5);
         }
         C.due("best(7) of nothing", x.best(7), 0);
+        x.errand(2, 3, 0);
+        C.due("best(7): three steps away", x.best(7), 0);
+        x.drop(2);
         x.errand(0, 0, 0);
         x.errand(0, 2, 0);
         x.errand(0, 4, 0);
@@ -705,7 +717,10 @@ public final class PromisesTest {
         ropeIs(1, 1, 1, 1, 0);
         ropeIs(2, 1, 1, 0, 0);
         ropeIs(2, 2, 1, 0, 0);
-        ropeIs(3, 3, 2, 0 + 1, 1);
+        ropeIs(3, 3, 2, 1, 1);
+        // two at 2 would keep 1 either way and pull: so one lets go ahead of it
+        ropeIs(2, 4, 1, 4, 0);
+        ropeIs(4, 4, 2, 4, 0);
         ropeIs(5, 5, 4, 2, 1);
         ropeIs(60, 2, 59, 0, 0);
         ropeIs(1, 60, 1, 60, 0);
