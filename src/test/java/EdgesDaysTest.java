@@ -140,6 +140,16 @@ public final class EdgesDaysTest {
         dayIs(alike(6, PERSON, 9, 0, 9), 7, 3, 0);
     }
 
+    @Says(promise = 9, text = "They go a step towards it .., and one more: towards the same, there is no vote between")
+    static void noVoteBetweenTwoSteps() {
+        TiedThrees x = ring(6);
+        add(x, PERSON, 5, 2, 9);
+        add(x, PERSON, 5);
+        add(x, PERSON, 5, 1, 9);
+        // 2, 0 and 1: the least number's; were 1 asked again at PLACE 1, they would stay there
+        dayIs(x, 7, 1, 2);
+    }
+
     // ---- promise 9: what is done
 
     @Says(promise = 9, text = "all their ERRANDS at the PLACE where they are are DONE, whose HOUR is this one or later")
@@ -378,9 +388,9 @@ public final class EdgesDaysTest {
         for (int others = 0; others <= 6; others += 3) {
             int three = 7 << others;
             for (int number = 0; number < 3; number++) {
-                int[] threeThenOne = {3, 9, 1, 0};
-                dayIs(mixed(others, number, 4, PERSON, threeThenOne, new int[] {1, 0}, new int[] {3, 0}), three, 2, 3);
-                dayIs(mixed(others, number, 4, HASTY, threeThenOne, new int[] {1, 0}, new int[] {3, 0}), three, 2, 1);
+                int[] oneThenThree = {1, 9, 3, 0};
+                dayIs(mixed(others, number, 4, PERSON, oneThenThree, new int[] {1, 0}, new int[] {3, 0}), three, 2, 1);
+                dayIs(mixed(others, number, 4, HASTY, oneThenThree, new int[] {1, 0}, new int[] {3, 0}), three, 2, 3);
                 // his ERRAND 0 is over in HOUR 1, and he holds to it
                 dayIs(mixed(others, number, 6, STUBBORN, new int[] {3, 0, 5, 9}, new int[] {1, 0, 3, 9}, new int[] {1, 0, 5, 9}),
                     three, 3, 1, 2, 3);

@@ -290,6 +290,31 @@ public final class EdgesKeptTest {
         }
     }
 
+    @Says(promise = 26, text = "keep all: the last ones of each, too, when as many others have been told since")
+    static void imagesKeepAllOfAFullTown() {
+        for (int image = 0; image < 2; image++) {
+            TiedThrees x = FULL.one();
+            x.image(image);
+            long digest = x.digest();
+            x.places(2);
+            for (int p = 0; p < 9; p++) {
+                x.person(4 - p % 5, 9 - p);
+            }
+            for (int e = 0; e < 36; e++) {
+                x.errand(e % 9, 1 - e % 2, e % 7);
+            }
+            for (int i = 0; i < 6; i++) {
+                x.week(448, 56, i == 5 ? 7 : 0);
+            }
+            for (int i = 0; i < 5; i++) {
+                x.sight(i, 1, 9 - i);
+            }
+            C.due("count(2)", x.count(2), 36);
+            C.due("from(" + image + ")", x.from(image), 1);
+            C.due("digest()", x.digest(), digest);
+        }
+    }
+
     @Says(promise = 26, text = "An IMAGE is kept: kept again, it is the later one")
     static void imageKeptAgain() {
         TiedThrees x = FULL.one();
