@@ -445,7 +445,7 @@ public final class EdgesReadTest {
         C.due("part(1)", x.part(1), y.part(1));
         C.due("status(0)", x.status(0), 1);
         for (int set = 1; set <= 7; set++) {
-            C.due("gain(" + set + ", 0)", x.gain(set, 0), set == 7 ? 0 : 99 - set);
+            C.due("gain(" + set + ", 0)", x.gain(set, 0), set == 7 ? 1 : 99 - set);
         }
         C.due("read() of the same TEXT", x.read(), 20);
         for (int image = 0; image < 2; image++) {

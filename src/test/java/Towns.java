@@ -40,7 +40,7 @@ final class Towns {
             x.errand(e % 9, (e + e / 9) % 6, 9 - e % 10);
         }
         x.image(1);
-        x.gain(7, 0);
+        x.gain(7, 1);
         for (int i = 0; i < 6; i++) {
             x.week(7 << i % 3, 0, i == 5 ? 448 : 0);
         }
